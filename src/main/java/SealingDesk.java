@@ -3,7 +3,8 @@ import java.util.Arrays;
 /**
  * A desk that seals bytes with keys and opens them again, in three ways.
  *
- * <p>Every row that a call needs is made with the desk and used again, so no call makes an object but the exception that it throws.
+ * <p>Every row that a call needs is made with the desk and used again, so no call makes an object but the exception
+ * that it throws.
  */
 public final class SealingDesk {
 

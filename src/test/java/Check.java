@@ -4,6 +4,12 @@ import java.util.HexFormat;
 /** Counts and prints what is not as due, and has the small helpers that the tests share. */
 final class Check {
     private int wrong = 0;
+    private String sentence = "";
+
+    /** What follows tests these words of the document; they stand before each failure. */
+    void sentence(String words) {
+        sentence = "[" + words + "] ";
+    }
 
     void same(String what, long got, long want) {
         if (got != want) {
@@ -35,7 +41,7 @@ final class Check {
 
     void fail(String text) {
         wrong++;
-        System.out.println(text);
+        System.out.println(sentence + text);
     }
 
     void end() {

@@ -85,17 +85,42 @@ final class Reference {
         return copy;
     }
 
-    static byte[] joint(byte[] key, List<byte[]> items, byte[] row) {
+    private static byte[] jointSum(byte[] key, List<byte[]> items) {
         byte[] sum = mark(key, new byte[16]);
         for (byte[] item : items) {
             sum = withEnd(doubled(sum), mark(key, item));
         }
+        return sum;
+    }
+
+    /** The item that makes D, behind no other item, these 16 bytes. */
+    static byte[] itemForSum(byte[] key, byte[] sum) {
+        return blockWithMark(key, withEnd(doubled(jointSum(key, List.of())), sum));
+    }
+
+    static byte[] joint(byte[] key, List<byte[]> items, byte[] row) {
+        byte[] sum = jointSum(key, items);
         if (row.length >= 16) {
             return mark(key, withEnd(row, sum));
         }
         byte[] padded = Arrays.copyOf(row, 16);
         padded[row.length] = (byte) 128;
         return mark(key, withEnd(padded, doubled(sum)));
+    }
+
+    /** The block that has this mark. */
+    static byte[] blockWithMark(byte[] key, byte[] mark) {
+        return withEnd(decipher(key, mark), doubled(encipher(key, new byte[16])));
+    }
+
+    /** The bytes, of full blocks or none, and one block more, so that all have this joint mark. */
+    static byte[] rowWithJoint(byte[] key, List<byte[]> items, byte[] front, byte[] mark) {
+        byte[] last = withEnd(blockWithMark(key, mark), jointSum(key, items));
+        if (front.length > 0) {
+            byte[] chained = must("AES/CBC/NoPadding", Cipher.ENCRYPT_MODE, key, new byte[16], front);
+            last = withEnd(last, Arrays.copyOfRange(chained, chained.length - 16, chained.length));
+        }
+        return Check.join(front, last);
     }
 
     private static byte[] streamed(byte[] key, byte[] mark, byte[] row) {
@@ -106,7 +131,11 @@ final class Reference {
     }
 
     static byte[] sealMarked(byte[] key0, byte[] key1, List<byte[]> items, byte[] row) {
-        byte[] mark = joint(key0, items, row);
+        return sealMarkedBehind(key1, joint(key0, items, row), row);
+    }
+
+    /** As MARKED, but with any V in front: to make what has to be refused. */
+    static byte[] sealMarkedBehind(byte[] key1, byte[] mark, byte[] row) {
         return Check.join(mark, streamed(key1, mark, row));
     }
 
