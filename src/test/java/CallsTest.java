@@ -14,6 +14,7 @@ public final class CallsTest {
         objectsApart();
         firstAndLastKey();
         keysApart();
+        noOtherKey();
         feedCounts();
         feedUpToFull();
         dropFullAndEmpty();
@@ -91,8 +92,6 @@ public final class CallsTest {
     private static void firstAndLastKey() {
         check.sentence("Key which (0 or 1) becomes the bytes of four words");
         SealingDesk desk = new SealingDesk();
-        check.throwing("key -1", IndexOutOfBoundsException.class, () -> desk.key(-1, 1, 2, 3, 4));
-        check.throwing("key 2", IndexOutOfBoundsException.class, () -> desk.key(2, 1, 2, 3, 4));
         Check.setKey(desk, 0, KEY0);
         sealsBy(desk, KEY0, ZERO);
         Check.setKey(desk, 1, KEY1);
@@ -101,6 +100,14 @@ public final class CallsTest {
         sealsBy(desk, ZERO, KEY1);
         Check.setKey(desk, 1, Check.filled(16, 255));
         sealsBy(desk, ZERO, Check.filled(16, 255));
+    }
+
+    private static void noOtherKey() {
+        check.sentence("IndexOutOfBoundsException when which is another one");
+        Known known = Known.desk(2, 20, 30);
+        check.throwing("key -1", IndexOutOfBoundsException.class, () -> known.desk.key(-1, 1, 2, 3, 4));
+        check.throwing("key 2", IndexOutOfBoundsException.class, () -> known.desk.key(2, 1, 2, 3, 4));
+        known.check(check, "keys -1 and 2");
     }
 
     private static void sealsBy(SealingDesk desk, byte[] key0, byte[] key1) {

@@ -1,3 +1,4 @@
+import java.util.Arrays;
 import java.util.List;
 
 /** The lengths that each way takes: the last one that is taken and the first that is refused, on either side. */
@@ -12,6 +13,7 @@ public final class LengthsTest {
         sealWrapped();
         openWrapped();
         sealPadded();
+        sealPaddedOfOneRow();
         openPadded();
         check.end();
     }
@@ -84,6 +86,21 @@ public final class LengthsTest {
         doesNotSeal(2, 65);
         doesNotSeal(2, 72);
         doesNotSeal(2, 88);
+    }
+
+    /** Made here of A and the zeros, not by the library's own padding. */
+    private static void sealPaddedOfOneRow() {
+        check.sentence("If they are 8 bytes then, the output is the cipher of A and them; otherwise as for WRAPPED");
+        for (int length = 1; length <= 64; length++) {
+            Known known = Known.desk(0, length, 0);
+            byte[] a = Check.join(Check.bytes("a65959a6 000000"), Check.filled(1, length));
+            byte[] rows = Arrays.copyOf(known.input, (length + 7) / 8 * 8);
+            known.desk.seal(2);
+            known.output = length <= 8
+                    ? Reference.encipher(KEY0, Check.join(a, rows))
+                    : Reference.sealBehind(KEY0, a, rows);
+            known.check(check, "seal of " + length);
+        }
     }
 
     private static void openPadded() {

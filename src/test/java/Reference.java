@@ -13,7 +13,8 @@ final class Reference {
     private Reference() {
     }
 
-    private static byte[] run(String name, int mode, byte[] key, byte[] iv, byte[] row) throws GeneralSecurityException {
+    private static byte[] run(String name, int mode, byte[] key, byte[] iv, byte[] row)
+            throws GeneralSecurityException {
         Cipher cipher = Cipher.getInstance(name);
         SecretKeySpec spec = new SecretKeySpec(key, "AES");
         if (iv == null) {

@@ -1,6 +1,6 @@
 import java.util.function.Supplier;
 
-/** Promises 1 to 14 together: runs of many calls, each answer beside the model's, and each output where it may change. */
+/** Promises 1 to 14 together: runs of many calls beside the model, each answer, and each output where it may change. */
 public final class RunsTest {
     private static final int RUNS = 1500;
     private static final int CALLS = 512;

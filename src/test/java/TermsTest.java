@@ -13,6 +13,7 @@ public final class TermsTest {
         bytes();
         words();
         cipherOfZeros();
+        lastRound();
         everyByteInEveryPlace();
         everyKeyByteInEveryPlace();
         highestBitOfE();
@@ -67,14 +68,19 @@ public final class TermsTest {
         check.outputIs("a key with " + word + " at " + place, desk, Reference.mark(key, new byte[0]));
     }
 
-    /** S of 0, the highest byte ^ 1 for no twos, and no products for r = 10: a break of one shows in these. */
     private static void cipherOfZeros() {
         check.sentence("let c be the byte whose product with b is 1 (0 for 0)");
         ciphersTo(ZERO, ZERO, Check.bytes("66e94bd4ef8a2c3b884cfa59ca342b2e"));
         byte[] sOfThemIsZero = Check.filled(16, 0x52);
         ciphersTo(ZERO, sOfThemIsZero, Reference.encipher(ZERO, sOfThemIsZero));
+    }
+
+    private static void lastRound() {
+        check.sentence("but for r = 10 each four bytes a b c d one behind the other become");
         byte[] full = Check.filled(16, 255);
         ciphersTo(full, full, Check.bytes("bcbf217cb280cf30b2517052193ab979"));
+        ciphersTo(Check.bytes("00010203 04050607 08090a0b 0c0d0e0f"),
+                Check.bytes("00112233 44556677 8899aabb ccddeeff"), Check.bytes("69c4e0d8 6a7b0430 d8cdb780 70b4c55a"));
     }
 
     private static void ciphersTo(byte[] key, byte[] row, byte[] due) {
